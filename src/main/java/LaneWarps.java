@@ -763,10 +763,10 @@ public final class LaneWarps {
                     into.latest()[INTO] = readOwn(OWN_A, OWN_D) - OWN_A;
                     break;
                 case 'X':
-                    into.latest()[FIRST] = readValue();
-                    break;
                 case 'Y':
-                    into.latest()[SECOND] = readValue();
+                    // Register k is told as -1 - k.
+                    into.latest()[piece == 'X' ? FIRST : SECOND] = kind == NUMBER
+                            ? readNumber(0, GREATEST_NUMBER) : OWN_A - 1 - readOwn(OWN_A, OWN_D);
                     break;
                 case 'G':
                     aimAt[into.lines - 1] = from;
@@ -782,10 +782,6 @@ public final class LaneWarps {
                     return readSign(piece);
             }
             return fault == 0;
-        }
-
-        private int readValue() {
-            return kind == NUMBER ? readNumber(0, GREATEST_NUMBER) : -1 - (readOwn(OWN_A, OWN_D) - OWN_A);
         }
 
         private int readNumber(int least, int most) {

@@ -103,9 +103,11 @@ public final class FaultsTest {
         wrongLine("go if;", 1, 3);
         wrongLine("go x x;", 1, 5);
         wrongLine("go x if;", 1, 7);
-        wrongLine("go x if a;", 1, 9);
         wrongLine("go x if a<;", 1, 10);
         wrongLine("go x if a<<1;", 1, 10);
+        wrongLine("go x if a 1;", 1, 10);
+        wrongLine("go x if a b;", 1, 10);
+        wrongLine("go x if a;", 1, 9);
         wrongLine("go x if a?1;", 1, 9);
         wrongLine("go x if a;1;", 1, 9);
         wrongLine("go x if x<1;", 1, 8);

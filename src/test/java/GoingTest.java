@@ -62,6 +62,7 @@ public final class GoingTest {
         registers(done("warps 1;rem a 7 0;sub b 0 10;rem b b 5;rem c 9 1;rem d 4 5;"), 0, 0, 0, 0, 0, 4);
         registers(done("warps 1;set a 3;add a a a;mul b a a;sub c b a;set d c;"), 0, 0, 6, 36, 30, 30);
         registers(done("warps 3;warp a;lane b;"), 2, 5, 2, 5);
+        registers(done("warps 1;set d 5;set a 0;add b 0 0;go x if 0=0;set c 1;x:end;"), 0, 1, 0, 0, 0, 5);
     }
 
     private void addresses() {
@@ -168,6 +169,8 @@ public final class GoingTest {
         meet("warps 1;go y if a<1;x:go z if b<1;y:go x if c<1;z:end;", 0, 3);
         meet("warps 1;go y if a<1;x:go z if b<1;y:go x if c<1;z:end;", 1, 3);
         meet("warps 1;go y if a<1;x:go z if b<1;y:go x if c<1;z:end;", 2, 3);
+        // the nearest point lies behind others in the text
+        meet("warps 1;go s;m:end;s:go t if a<1;set b 1;t:go m;", 2, 4);
         // the point lies ahead in the text
         meet("warps 1;go s;m:set a 1;end;s:go t if a<1;go m;t:go m;", 3, 1);
     }
@@ -444,6 +447,14 @@ public final class GoingTest {
         check.same("one LANE alone", z.has(6), 0);
         LaneWarps w = done("warps 2;lane a;store a 1;end;");
         check.same("LANES of two WARPS", w.has(6), 8);
+        LaneWarps ids = done("warps 4;lane a;warp b;mul c b 8;add c c a;go x if c=1;go y if c=8;end;x:store 5 1;end;y:load d 5;end;");
+        check.same("LANE 1 of WARP 0, LANE 0 of WARP 1", ids.raced(false, 5), 1);
+        for (int one = 0; one < 32; one += 3) {
+            LaneWarps two = done("warps 4;lane a;warp b;mul c b 8;add c c a;go x if c=" + one + ";go y if c=31;end;x:store 5 1;end;y:load d 5;end;");
+            check.same("LANES " + one + " and 31", two.raced(false, 5), 1);
+        }
+        LaneWarps later = done("warps 1;lane a;put a a;bar;get c 0;end;");
+        check.same("written ahead of the bar", later.has(6), 0);
         LaneWarps stays = done("warps 1;store 4 1;bar;load a 4;bar;end;");
         check.same("from then on", stays.raced(false, 4), 1);
         check.same("EPOCHS", stays.has(9), 2);

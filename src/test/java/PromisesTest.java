@@ -144,6 +144,43 @@ public final class PromisesTest {
         check.same("mode", x.has(10), 0);
         check.same("order", x.has(11), 1);
         check.same("word", x.word(false, 1), 6);
+        programsOneAfterTheOther();
+        askedOfAnotherProgram();
+    }
+
+    private void programsOneAfterTheOther() {
+        LaneWarps x = new LaneWarps();
+        for (int k = 0; k < 3; k++) {
+            Check.tell(x, "warps 3;word 1 6;mode fair;order turns;x:set a 1;go x if a<1;end;");
+            for (int again = 0; again < 2; again++) {
+                check.same("program()", Check.tell(x, "warps 1;x:end;"), 1);
+                check.same("warps", x.has(1), 1);
+                check.same("mode", x.has(10), 0);
+                check.same("order", x.has(11), 0);
+                check.same("word", x.word(false, 1), 0);
+                check.same("line", x.line(0, 1), NOTHING);
+                check.same("line", x.line(0, 6), NOTHING);
+                check.same("LIVE", x.has(4), 8);
+            }
+        }
+    }
+
+    /** What has been asked of one program must not be answered for the next one. */
+    private void askedOfAnotherProgram() {
+        LaneWarps x = new LaneWarps();
+        for (int k = 1; k < 4; k++) {
+            Check.tell(x, "warps 1;load a " + k + ";x:sub a a 1;go x if a>0;set a " + k + ";" + "yield;".repeat(k) + "end;");
+            check.same("goes", x.goes(1), 7 + k);
+            check.same("by", x.by(1, 1, 1), 7 + k);
+            check.same("skew", x.skew(1), 7 + k);
+            check.same("alone", x.alone(0, 3, 0), k);
+            check.same("alone", x.alone(0, 3, 4), 7 + k);
+            check.same("likely", x.likely(0, 7 + k, NONE), 16);
+            check.same("likely", x.likely(k, 7 + k, NONE), 2);
+            check.same("tells", x.tells(0), k);
+            x.cycles(20);
+            check.same("agrees", x.agrees(), 8);
+        }
     }
 
     private void fault5() {
@@ -420,6 +457,10 @@ public final class PromisesTest {
         goes(Check.with("warps 1;x:add a a 1;rem a a 133;go x;"), 2, 400, 399);
         goes(Check.with("warps 1;set b 1;x:add a a 1;rem a a 133;go x;"), 2, 400, 399);
         goes(Check.with("warps 1;set b 1;set c 1;x:add a a 1;rem a a 133;go x;"), 3, NONE, NONE);
+        LaneWarps longest = Check.with("warps 1;x:add a a 1;rem a a 100;yield;go x;");
+        goes(longest, 3, NONE, NONE);
+        longest.cycles(4);
+        goes(longest, 2, 400, 400);
         LaneWarps x = Check.with(FOREVER);
         check.same("goes(3)", x.goes(3), NONE);
         check.same("goes(-1)", x.goes(-1), NONE);
@@ -632,6 +673,18 @@ public final class PromisesTest {
         check.same("by fair", split.likely(0, 8, 0), 4);
         split.undo();
         check.same("by stack", split.likely(0, 7, NONE), 8);
+        // WARP 0 has more LINES, WARP 1 waits longer: by age it begins late
+        LaneWarps turns = Check.with("warps 2;warp a;go x if a=1;set b 1;set b 1;set b 1;set b 1;end;x:load b 0;end;");
+        check.same("by age", turns.likely(0, 13, NONE), 16);
+        turns.set(0, 1, 0);
+        check.same("by turns", turns.likely(0, 13, NONE), 0);
+        check.same("by turns", turns.likely(0, 11, NONE), 16);
+        LaneWarps banks = Check.with("warps 1;lane a;mul a a 4;get b a;load c 0;end;");
+        check.same("by SKEW 0", banks.likely(0, 14, NONE), 16);
+        banks.set(0, 0, 1);
+        check.same("by SKEW 1", banks.likely(0, 8, NONE), 16);
+        banks.set(0, 0, 2);
+        check.same("by SKEW 2", banks.likely(0, 10, NONE), 16);
     }
 
     private void tells22() {
@@ -656,6 +709,10 @@ public final class PromisesTest {
         LaneWarps ends = Check.with("warps 1;load a 6;x:go x if a=3;end;");
         check.same("not within 400 is one, too", ends.tells(0), 6);
         check.same("unlike", ends.tells(1), 2);
+        LaneWarps modes = Check.with("warps 1;lane a;load b 0;go x if a<b;go x if a<8;x:end;");
+        check.same("by stack", modes.tells(1), 2);
+        modes.set(1, 0, 0);
+        check.same("by fair", modes.tells(1), 3);
     }
 
     private void cycles23() {
@@ -762,6 +819,26 @@ public final class PromisesTest {
         check.same("TURN", x.warp(1, 3), 0);
         check.same("LINES", x.warp(1, 4), 0);
         check.same("0 first", x.next(0), 0);
+        for (int mode = 0; mode < 2; mode++) {
+            x.set(mode, 0, 0);
+            x.cycles(7);
+            check.same("WAIT", x.has(5), 8);
+            x.begin();
+            check.same("WAIT", x.has(5), 0);
+            check.same("GO", x.warp(0, 5), 1);
+        }
+        LaneWarps touched = Check.with("warps 1;load a 0;lane b;go x if a=b;load c 5;end;x:store 4 1;store 5 1;end;");
+        touched.cycles(30);
+        check.same("RACED", touched.raced(false, 4), 0);
+        check.same("RACED", touched.raced(false, 5), 1);
+        touched.begin();
+        touched.poke(false, 0, 1);
+        touched.cycles(30);
+        check.same("touched ahead of BEGIN", touched.raced(false, 4), 0);
+        touched.begin();
+        touched.poke(false, 0, 9);
+        touched.cycles(30);
+        check.same("written ahead of BEGIN", touched.raced(false, 5), 0);
     }
 
     private void chance27() {
@@ -868,6 +945,25 @@ public final class PromisesTest {
         check.same("RACED undone", x.has(6), 0);
         x.cycles(60);
         check.same("RACED once more", x.has(6), 1);
+        LaneWarps touched = Check.with("warps 1;load a 0;lane b;go x if a=b;load c 5;end;x:store 4 1;store 5 1;end;");
+        touched.cycles(30);
+        touched.undo();
+        touched.poke(false, 0, 1);
+        touched.cycles(30);
+        check.same("touched behind what is undone", touched.raced(false, 4), 0);
+        touched.undo();
+        touched.poke(false, 0, 9);
+        touched.cycles(30);
+        check.same("written behind what is undone", touched.raced(false, 5), 0);
+        LaneWarps kept = Check.with(FOREVER);
+        kept.cycles(30);
+        kept.cycles(10);
+        check.same("KEPT", kept.kept(0, 0), 10);
+        kept.undo();
+        check.same("KEPT undone", kept.kept(0, 0), 0);
+        check.same("KEPT undone", kept.kept(29, 0), 29);
+        check.same("LINES of the WARP undone", kept.warp(0, 4), 30);
+        check.same("LINES undone", kept.has(3), 30);
     }
 
     private void seed29() {
