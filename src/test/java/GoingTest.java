@@ -173,6 +173,7 @@ public final class GoingTest {
         meet("warps 1;go s;m:end;s:go t if a<1;set b 1;t:go m;", 2, 4);
         // the point lies ahead in the text
         meet("warps 1;go s;m:set a 1;end;s:go t if a<1;go m;t:go m;", 3, 1);
+        meet("warps 1;m:go ex if a>3;go s if b<1;go m;s:go m;ex:end;", 1, 0);
     }
 
     private void splits() {

@@ -115,7 +115,12 @@ public final class PromisesTest {
         x.seed(77);
         x.set(0, 0, 3);
         x.cycles(1);
-        check.same("with a fault", Check.tell(x, "warps 2;set a 1;end;!"), NONE);
+        check.same("with a fault", Check.tell(x, "warps 1;word 3 4;yield;x:bar;go x;!"), NONE);
+        check.same("all stays", x.has(0), 2);
+        check.same("all stays", x.has(1), 2);
+        check.same("all stays", x.line(0, 0), 0);
+        check.same("all stays", x.goes(1), 3);
+        check.same("all stays", x.likely(0, 4, NONE), 16);
         check.same("the tape goes with a fault, too", x.end(1), false);
         check.same("all stays", x.has(2), 1);
         check.same("all stays", x.has(8), 2);
