@@ -22,6 +22,10 @@ final class Check {
         same(call, got ? 1 : 0, due ? 1 : 0);
     }
 
+    int asked() {
+        return asked;
+    }
+
     boolean isFine() {
         return wrong == 0;
     }
