@@ -125,6 +125,14 @@ public final class AheadEdgesTest extends Edges {
     }
 
     @Holds(at = "Terms III", says = "(registers, memories, LINES, PARTS, TURNS, who LIVES, WAITS, went last, how much of READY is still to come)")
+    void oneStackAndTheSameWithAPartMore() {
+        // each round of 3 is at 1, then at 3 under a PART that yields, then at 3 alone
+        for (int ahead = 0; ahead < 3; ahead++) {
+            goes(with("warps 1;" + "yield;".repeat(ahead) + "lane a;x:go y if a<4;yield;y:go x if b=0;end;"), 2, ahead + 4, 3);
+        }
+    }
+
+    @Holds(at = "Terms III", says = "(registers, memories, LINES, PARTS, TURNS, who LIVES, WAITS, went last, how much of READY is still to come)")
     void barsWithoutEnd() {
         // LANE 0 has ENDED; the others go from bar to bar, by TURNS of 7 for 2 LINES
         goes(with("warps 1;mode fair;lane a;go x if a>0;end;x:bar;go x;"), 2, 19, 14);

@@ -445,7 +445,7 @@ public final class TextEdgesTest extends Edges {
 
     @Holds(at = "Terms I", says = "at the text's length, if it ends too soon,")
     void aFullTapeThatEndsTooSoon() {
-        for (String last : new String[] {"set a 12", "set a 123", "abcdef", "x", "end", "go abcdef", "set"}) {
+        for (String last : new String[] {"set a 12", "set a 123", "abcdef", "x", "se", "end", "go abcdef", "go war", "set"}) {
             wrong("warps 1;" + " ".repeat(1592 - last.length()) + last, 1, 1600);
         }
     }
